@@ -29,6 +29,7 @@ public final class FeatherCourt {
     /** A text is read into this one, so that a fault leaves the laws in force alone. */
     private Program spare;
     private final State now;
+    /** Made when first held: most objects never hold anything, and a state is large. */
     private final State[] slots;
     private final boolean[] held;
     private final Past past;
@@ -47,9 +48,6 @@ public final class FeatherCourt {
         spare = new Program();
         now = new State();
         slots = new State[SLOTS];
-        for (int i = 0; i < SLOTS; i++) {
-            slots[i] = new State();
-        }
         held = new boolean[SLOTS];
         past = new Past();
         tests = new Tests();
@@ -184,7 +182,7 @@ public final class FeatherCourt {
             case 0: return now.entryMan(i);
             case 1: return now.entryDeed(i);
             case 2: return now.entryWeek[i];
-            case 3: return now.entryPlucked[i];
+            case 3: return now.entryPlucked(i);
             case 4: return now.isAppealed(i) ? 1 : 0;
             default: return NONE;
         }
@@ -259,7 +257,7 @@ public final class FeatherCourt {
         past.note(now).appealed = i;
         now.setAppealed(i, true);
         now.pluck(man, CHEST, 1);
-        return now.move(CHEST, man, man, now.entryPlucked[i] / 2);
+        return now.move(CHEST, man, man, now.entryPlucked(i) / 2);
     }
 
     public boolean stuff(int from, int to, int n) {
@@ -332,13 +330,16 @@ public final class FeatherCourt {
         if (slot < 0 || slot >= SLOTS) {
             return false;
         }
+        if (slots[slot] == null) {
+            slots[slot] = new State();
+        }
         slots[slot].copyFrom(now);
         held[slot] = true;
         return true;
     }
 
     public boolean restore(int slot) {
-        if (slot < 0 || slot >= SLOTS || !held[slot]) {
+        if (slot < 0 || slot >= SLOTS || !held[slot] || slots[slot] == null) {
             return false;
         }
         now.copyFrom(slots[slot]);
@@ -585,16 +586,18 @@ public final class FeatherCourt {
 
     /** Geese, chest, debts, entries and the week: all that a slot holds. */
     private static final class State {
+        /** What an appeal adds to the number of an entry, above its man and deed. */
+        private static final int APPEALED = MOST * MOST;
+
         /** Row by row (each goose, then the chest): how many grew on which goose. */
         final int[] feathers = new int[ROWS * MOST];
         /** Row by row: what a man owes to each other one. */
         final int[] debts = new int[MOST * MOST];
         /** Row by row: how often a man was fined for each deed since the last moult. */
         final int[] times = new int[MOST * MOST];
-        /** Man, deed and appeal of an entry in one number: the rows of all slots are to be small. */
+        /** Feathers plucked, appeal, man and deed of an entry in one number: each slot has such a row, and room is dear. */
         final int[] entryWhat = new int[MOST_ENTRIES];
         final int[] entryWeek = new int[MOST_ENTRIES];
-        final int[] entryPlucked = new int[MOST_ENTRIES];
         int entries;
         int week;
 
@@ -617,7 +620,6 @@ public final class FeatherCourt {
             System.arraycopy(other.debts, 0, debts, 0, debts.length);
             System.arraycopy(other.entryWhat, 0, entryWhat, 0, MOST_ENTRIES);
             System.arraycopy(other.entryWeek, 0, entryWeek, 0, MOST_ENTRIES);
-            System.arraycopy(other.entryPlucked, 0, entryPlucked, 0, MOST_ENTRIES);
             entries = other.entries;
             week = other.week;
         }
@@ -684,9 +686,8 @@ public final class FeatherCourt {
 
         void writeDown(int man, int deed, int plucked) {
             if (entries < MOST_ENTRIES) {
-                entryWhat[entries] = man * MOST + deed;
+                entryWhat[entries] = plucked * 2 * APPEALED + man * MOST + deed;
                 entryWeek[entries] = week;
-                entryPlucked[entries] = plucked;
                 entries++;
             }
         }
@@ -699,12 +700,18 @@ public final class FeatherCourt {
             return entryWhat[i] % MOST;
         }
 
+        int entryPlucked(int i) {
+            return entryWhat[i] / (2 * APPEALED);
+        }
+
         boolean isAppealed(int i) {
-            return entryWhat[i] >= MOST * MOST;
+            return entryWhat[i] / APPEALED % 2 == 1;
         }
 
         void setAppealed(int i, boolean appealed) {
-            entryWhat[i] = entryWhat[i] % (MOST * MOST) + (appealed ? MOST * MOST : 0);
+            if (isAppealed(i) != appealed) {
+                entryWhat[i] += appealed ? APPEALED : -APPEALED;
+            }
         }
     }
 
@@ -849,9 +856,12 @@ public final class FeatherCourt {
         final int[] fines = new int[MOST * MOST];
         final int[] haves = new int[MOST];
         /** Row by row: the least guilt by which the men from one on give so many feathers or more. */
-        final int[][] least = new int[MOST + 1][MOST_FEATHERS + 1];
-        final int[] guiltOf = new int[SETS];
-        final int[] comeBy = new int[SETS];
+        private final int[][] least = new int[MOST + 1][MOST_FEATHERS + 1];
+        private final int[] guiltOf = new int[SETS];
+        private final int[] comeBy = new int[SETS];
+        /** The sets of deeds worth a look: what comes by each, from the least on, and its guilt. */
+        private final int[] offerCome = new int[MOST_FEATHERS + 1];
+        private final int[] offerGuilt = new int[MOST_FEATHERS + 1];
         final int[] chosen = new int[MOST];
         int guilt;
         int feathers;
@@ -863,8 +873,9 @@ public final class FeatherCourt {
             }
             for (int man = law.men - 1; man >= 0; man--) {
                 sumFines(man, law.deeds);
+                int offers = gatherOffers(n, 1 << law.deeds);
                 for (int need = 0; need <= n; need++) {
-                    least[man][need] = leastGuilt(man, need, 1 << law.deeds);
+                    least[man][need] = leastGuilt(man, need, offers);
                 }
             }
             guilt = least[0][n];
@@ -904,21 +915,43 @@ public final class FeatherCourt {
             }
         }
 
-        private int guiltBy(int set, int man, int need) {
-            return guiltOf[set] + least[man + 1][Math.max(0, need - comeBy[set])];
+        /** Keeps of the sets of deeds only those than which none gives as much for as little guilt: far fewer. */
+        private int gatherOffers(int n, int sets) {
+            for (int come = 0; come <= n; come++) {
+                offerGuilt[come] = TOO_MUCH;
+            }
+            for (int set = 0; set < sets; set++) {
+                int come = Math.min(n, comeBy[set]);
+                offerGuilt[come] = Math.min(offerGuilt[come], guiltOf[set]);
+            }
+            for (int come = n - 1; come >= 0; come--) {
+                offerGuilt[come] = Math.min(offerGuilt[come], offerGuilt[come + 1]);
+            }
+            // An offer's place is never behind the one it is read from, so the row can be written over.
+            int many = 0;
+            for (int come = 0; come <= n; come++) {
+                if (come == n || offerGuilt[come] < offerGuilt[come + 1]) {
+                    offerCome[many] = come;
+                    offerGuilt[many] = offerGuilt[come];
+                    many++;
+                }
+            }
+            return many;
         }
 
-        private int leastGuilt(int man, int need, int sets) {
+        private int leastGuilt(int man, int need, int offers) {
             int best = TOO_MUCH;
-            for (int set = 0; set < sets; set++) {
-                best = Math.min(best, guiltBy(set, man, need));
+            for (int i = 0; i < offers; i++) {
+                int rest = Math.max(0, need - offerCome[i]);
+                best = Math.min(best, offerGuilt[i] + least[man + 1][rest]);
             }
             return best;
         }
 
         private int firstOfLeast(int man, int need, int sets) {
             for (int set = 0; set < sets; set++) {
-                if (guiltBy(set, man, need) == least[man][need]) {
+                int rest = Math.max(0, need - comeBy[set]);
+                if (guiltOf[set] + least[man + 1][rest] == least[man][need]) {
                     return set;
                 }
             }
