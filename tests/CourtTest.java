@@ -52,6 +52,13 @@ public final class CourtTest {
         Check.due("6: a votes", x.man(0, 5), 0);
         Check.due("6: b votes", x.man(1, 5), 2);
         Check.due("6: c votes for the first of alike ones", x.man(2, 5), 0);
+        x = Check.court("man a 5;man b 9;man c 7;");
+        x.stuff(1, 2, 2);
+        x.stuff(2, 0, 3);
+        Check.due("6: b's, elsewhere", x.man(1, 6), 2);
+        Check.due("6: b's, on it", x.man(1, 1), 7);
+        Check.due("6: c's, elsewhere", x.man(2, 6), 3);
+        Check.due("6: c's, on it", x.man(2, 1), 4);
         x = Check.court("man a 5;man b 5;vote a = have;vote b = times;deed d 1;fine d = 0;");
         x.fine(1, 0);
         Check.due("6: times are those of whom one votes for", x.man(1, 5), 1);

@@ -46,6 +46,13 @@ public final class PlanTest {
         x.lend(2, 0, 3);
         Check.due("18: all are even, though all owe", x.payments(), 0);
         Check.due("18: debts stay", x.debt(1, 0), 5);
+        x = Check.court(men(50, 50, 50));
+        x.lend(1, 2, 4);
+        Check.due("18: the first is even from the start", x.payments(), 1);
+        x.lend(0, 1, 4);
+        Check.due("18: the second is even", x.payments(), 1);
+        x.lend(2, 0, 4);
+        Check.due("18: all are", x.payments(), 0);
     }
 
     /** Lends so that each net is as told: from those above 0 to those below. */
@@ -106,6 +113,10 @@ public final class PlanTest {
         x.fine(0, 0);
         x.fine(0, 0);
         Check.due("19: nothing grows behind the moult", x.warmBy(0), -2);
+        x = Check.court(men(50) + "deed d 1;warm = 1 - times;moult 1;");
+        x.fine(0, 0);
+        Check.due("19: not now", x.warm(0), 0);
+        Check.due("19: a moult each week", x.warmBy(0), 1);
     }
 
     private static void warm() {

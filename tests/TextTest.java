@@ -48,6 +48,12 @@ public final class TextTest {
         Check.due("3: back(19)", x.back(19), 1980);
         Check.due("2: feed to 2000", x.feed(0, 0, 0, 0, 0), 2000);
         Check.due("3: back(20)", x.back(20), 1980);
+        FeatherCourt y = new FeatherCourt();
+        Check.due("3: back(0) of an empty tape", y.back(0), 0);
+        Check.due("3: back(1) of an empty tape", y.back(1), NONE);
+        y.feed(1, 2, 3, 4, 5);
+        Check.due("3: all go", y.back(20), 0);
+        Check.due("3: none is left", y.count(8), 0);
         Check.due("4: only blanks", x.read(), 0);
         Check.due("4: the tape is empty", x.count(8), 0);
         // "man a 7;moult 99;   " by its bytes, the highest of each int first
@@ -78,6 +84,10 @@ public final class TextTest {
         Check.fault("man a\0005;", 1, 5);
         Check.fault("man a\u00a05;", 1, 5);
         Check.fault("man a 5.", 1, 7);
+        Check.fault("man a;man b 5;oops", 1, 5);
+        Check.fault("man;man b 5;oops", 1, 3);
+        Check.fault("fine;man b 5;oops", 1, 4);
+        Check.fault("moult;man b 5;oops", 1, 5);
         Check.fault("\u00e9", 1, 0);
         for (String word : "man deed fine grow warm vote cold moult if then else have times week wind chest rank".split(" ")) {
             Check.fault("man " + word + " 5;", 1, 4);
@@ -154,7 +164,11 @@ public final class TextTest {
         Check.court("warm=if ((((((1)))))) < ((((((1)))))) then ((((((1)))))) else ((((((1))))));");
         // grow = 1 + 1 ... of 400 tokens in all, one more and a fault of syntax at the same place
         String sum = "cold 1 2;grow=1" + many("+1", 196);
-        Check.court(sum + ";");
+        x = Check.court(sum + ";");
+        Check.due("400 tokens", x.count(6), 2);
+        x = Check.court("man a 1;grow=1" + many("+1", 196) + ";");
+        x.weeks(1);
+        Check.due("the longest of sums", x.man(0, 0), 198);
         Check.fault(sum + ";" + "moult 5;", 2, sum.length() + 1);
         Check.fault(sum + ";" + "oops", 1, sum.length() + 1);
         Check.fault(sum + ";" + "?", 1, sum.length() + 1);
@@ -235,6 +249,23 @@ public final class TextTest {
         Check.due("4: nothing can be undone", x.undo(), false);
         Check.due("4: no slot holds anything", x.restore(1), false);
         Check.due("4: no entry", x.entry(0, 0), NONE);
+        for (int slot = 0; slot < 3; slot++) {
+            x.hold(slot);
+        }
+        Check.feed(x, "man z 9;deed x 1;fine x=1;grow=5;warm=1;vote z=5;moult 3;cold 4;man y 10;vote y=0-have;");
+        Check.due("4: read", x.read(), 0);
+        Check.due("32: slots", x.count(11), 0);
+        for (int i = 0; i < 2; i++) {
+            Check.feed(x, "man z 3;man y 5;deed x 1;");
+            Check.due("4: read", x.read(), 0);
+            Check.due("I: a fine is 10 if not told", x.tariff(0, 0), 10);
+            x.weeks(3);
+            Check.due("I: nothing grows if not told", x.man(0, 0), 3);
+            Check.due("I: warm is have less wind if not told", x.man(0, 4), 1);
+            Check.due("I: a vote is have if not told", x.man(1, 5), 1);
+            Check.due("I: no moult if not told", x.count(7), 0);
+            Check.due("I: no cold if not told", x.count(6), 0);
+        }
     }
 
     /** What the law of a fine tells for the second man, who has 20 feathers. */
