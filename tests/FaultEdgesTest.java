@@ -101,6 +101,16 @@ public final class FaultEdgesTest {
         Check.fault("deed a;deed b 5;?", 1, 6);
         Check.fault("deed;deed b 5;?", 1, 4);
         Check.fault("deed a 5 6;", 1, 9);
+        Check.edge("I: 1 SYNTAX: a fine and a vote have one NAME");
+        Check.fault("deed d 5;fine =5", 1, 14);
+        Check.fault("deed d 5;fine d d=5;", 1, 16);
+        Check.fault("deed d 5;fine 5=5;?", 1, 14);
+        Check.fault("man a 5;vote =5", 1, 13);
+        Check.fault("man a 5;vote a a=5;", 1, 15);
+        Check.fault("man a 5;vote have=5;?", 1, 13);
+        Check.edge("I: 1 SYNTAX: a grow and a warm have none");
+        Check.fault("man a 5;grow a=5;", 1, 13);
+        Check.fault("man a 5;warm a=5;", 1, 13);
         Check.edge("I: 1 SYNTAX: a moult has one INT");
         Check.fault("moult;moult 5;?", 1, 5);
         Check.fault("moult 5 6;", 1, 8);
@@ -206,6 +216,7 @@ public final class FaultEdgesTest {
         Check.fault(eight + word + " ma 1000;", 2, end);
         Check.fault(eight + others + word + " z 1;", 2, end + others.length());
         Check.fault(eight + "moult 5;" + word + " z 1;?", 2, end + 8);
+        Check.fault((word + " a 1;").repeat(9), 2, 8 * (word.length() + 5));
         Check.edge("I: 8 " + says + ", of each text alone");
         FeatherCourt x = Check.court(eight);
         Check.read(x, eight);

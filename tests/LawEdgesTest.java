@@ -16,6 +16,7 @@ public final class LawEdgesTest {
         growSees();
         warmSees();
         voteSees();
+        chestOfAll();
         windGoesRound();
         fineIsHeld();
         growIsHeld();
@@ -162,6 +163,11 @@ public final class LawEdgesTest {
         Check.due("c: 8, 0, -4", x.man(2, 5), 0);
         x = Check.court("man a 5;man b 5;man c 5;vote a=0-7*7/(1+rank*rank-2*rank);");
         Check.due("a: -49, 0, -49", x.man(0, 5), 1);
+        x = Check.court("man a 5;man b 5;man c 5;vote a=(0-1)/(1-rank);vote b=0/rank;vote c=if rank<1 then 5/0 else 2-rank;");
+        Check.due("a: -1, 0, 1", Check.court("man a 5;man b 5;vote a=(0-1)/(1-rank);").man(0, 5), 1);
+        Check.due("a: -1, 0, 1, by its last one", x.man(0, 5), 2);
+        Check.due("b: 0, 0, 0", x.man(1, 5), 0);
+        Check.due("c: 0, 1, 0", x.man(2, 5), 1);
     }
 
     // ---- what a law sees ----
@@ -242,6 +248,22 @@ public final class LawEdgesTest {
         Check.due("a", x.man(0, 5), 1);
         Check.due("b", x.man(1, 5), 0);
         Check.due("c", x.man(2, 5), 1);
+    }
+
+    private static void chestOfAll() {
+        Check.edge("II: chest: FEATHERS in the CHEST, whose ever");
+        FeatherCourt x = Check.court("man a 30;man b 30;man c 5;deed d 1;fine d=5;deed e 1;fine e=chest;grow=chest;warm=chest-9;"
+            + "vote a=if rank<1 then 0 else chest-9;vote b=if rank<1 then 0 else chest-10;");
+        x.fine(0, 0);
+        x.fine(1, 0);
+        for (int man = 0; man < 3; man++) {
+            Check.due("FINE of " + man, x.tariff(man, 1), 10);
+        }
+        Check.due("WARM", x.warm(0), 7);
+        Check.due("VOTE above 9", x.man(0, 5), 1);
+        Check.due("VOTE not above 10", x.man(1, 5), 0);
+        x.weeks(1);
+        Check.due("GROW", x.man(2, 0), 15);
     }
 
     private static void windGoesRound() {

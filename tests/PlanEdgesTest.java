@@ -317,6 +317,12 @@ public final class PlanEdgesTest {
         quilt(x, 17, 8, 17, 2, 3);
         quilt(x, 18, 10, 18, 3, 3);
         Check.due("7 and 11 are all", x.quilt(19, 0), -2);
+        Check.edge("III: of no MAN more FEATHERS than he has, whose ever");
+        x = Check.court("man a 2;man b 9;deed d 2;deed e 3;fine d=5;fine e=5;");
+        x.stuff(1, 0, 6);
+        quilt(x, 8, 4, 8, 1, 1);
+        quilt(x, 9, 7, 11, 3, 1);
+        Check.due("12", x.quilt(12, 0), -2);
         Check.edge("III: of a MAN who has fewer than one FINE");
         x = Check.court("man a 3;deed d 2;");
         quilt(x, 3, 2, 3, 1);
@@ -444,6 +450,10 @@ public final class PlanEdgesTest {
         x = Check.court("man a 9;man b 7;man c 5;man d 0;" + votes("a", 1) + votes("b", 2) + votes("c", 1) + votes("d", 2));
         Check.due("elected(0)", x.elected(0), 2);
         Check.due("elected(1)", x.elected(1), 2);
+        Check.edge("III: the fewest FEATHERS of his goose, whose ever");
+        x = Check.court("man a 9;man b 5;man c 20;" + votes("a", 0) + votes("b", 1) + votes("c", 2));
+        x.stuff(2, 1, 6);
+        Check.due("a has 9, b 11, 5 of them his own", x.elected(0), 0);
         Check.edge("III: then the first");
         x = Check.court("man a 9;man b 5;man c 5;" + votes("a", 0) + votes("b", 2) + votes("c", 1));
         Check.due("elected(0)", x.elected(0), 1);

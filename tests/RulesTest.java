@@ -1,4 +1,5 @@
 import java.lang.management.ManagementFactory;
+import java.lang.reflect.Array;
 import java.lang.reflect.Constructor;
 import java.lang.reflect.Field;
 import java.lang.reflect.Member;
@@ -6,7 +7,11 @@ import java.lang.reflect.Method;
 import java.lang.reflect.Modifier;
 import java.nio.file.Files;
 import java.nio.file.Path;
+import java.util.ArrayDeque;
 import java.util.Arrays;
+import java.util.Collections;
+import java.util.Deque;
+import java.util.IdentityHashMap;
 import java.util.Set;
 import java.util.TreeSet;
 import java.util.regex.Matcher;
@@ -19,7 +24,7 @@ public final class RulesTest {
         + " int quilt(2) int quiltOf(2) int read(0) int repay(3) boolean restore(1) boolean stuff(3) int stuffer(3) int surely(2)"
         + " int tariff(2) int tell(2) boolean undo(0) int warm(1) int warmBy(1) int weeks(1)";
     private static final String[] BANNED = {"\\bthrow\\b", "\\btry\\b", "\\bcatch\\b", "\\bsynchronized\\b", "\\bassert\\b",
-        "\\bimport\\b(?! java\\.util\\.)", "\\bpackage\\b", "::", "\\bhashCode\\b", "\\bSystem\\.(?!arraycopy)", "\\bprotected\\b",
+        "\\bimport\\b(?! java\\.util\\.)", "\\bpackage\\b", "::", "->", "\\bhashCode\\b", "\\bSystem\\.(?!arraycopy)", "\\bprotected\\b",
         "\\bvar\\b", "Exact\\b", "\\bThread\\b", "\\bfinalize\\b", "[^\\x00-\\x7f]"};
     /** The room of one run: fields and elements, of 8 bytes at most. */
     private static final long MOST_ROOM = 7300000L * 8;
@@ -29,6 +34,7 @@ public final class RulesTest {
         members();
         source(Files.readString(Path.of("src/main/java/FeatherCourt.java")));
         room();
+        roomOfOne();
         Check.close("RulesTest");
     }
 
@@ -129,6 +135,66 @@ public final class RulesTest {
                 use(x, what);
             }
             Check.due("bytes", taken() - before < MOST_ROOM, true);
+        }
+    }
+
+    /** 512 objects at once, each with its slots held, must live in one room of 600,000 objects and 7.3 million places. */
+    private static void roomOfOne() throws Exception {
+        Check.edge("the room of one object: as it is new, as it is used");
+        FeatherCourt x = Check.court("man a 99;man b 99;deed d 1;");
+        long[] first = reached(x);
+        Check.due("objects: " + first[0], first[0] <= 1000, true);
+        Check.due("fields and elements: " + first[1], first[1] <= 14000, true);
+        for (int i = 0; i < 100; i++) {
+            x.fine(0, 0);
+            x.lend(0, 1, 1);
+            x.hold(i % 3);
+            use(x, i % 12);
+        }
+        long[] last = reached(x);
+        Check.due("fields and elements, three slots held: " + last[1], last[1] <= 17000, true);
+    }
+
+    /** How many objects and arrays can be reached from one, and how many fields and elements those have. */
+    private static long[] reached(Object from) throws Exception {
+        Set<Object> known = Collections.newSetFromMap(new IdentityHashMap<>());
+        Deque<Object> open = new ArrayDeque<>();
+        open.push(from);
+        long places = 0;
+        while (!open.isEmpty()) {
+            Object one = open.pop();
+            if (known.add(one)) {
+                places += one.getClass().isArray() ? elements(one, open) : fields(one, open);
+            }
+        }
+        return new long[] {known.size(), places};
+    }
+
+    private static int elements(Object array, Deque<Object> open) {
+        boolean numbers = array.getClass().getComponentType().isPrimitive();
+        for (int i = 0; i < Array.getLength(array) && !numbers; i++) {
+            push(open, Array.get(array, i));
+        }
+        return Array.getLength(array);
+    }
+
+    private static int fields(Object one, Deque<Object> open) throws Exception {
+        int many = 0;
+        for (Field f : one.getClass().getDeclaredFields()) {
+            if (!Modifier.isStatic(f.getModifiers())) {
+                many++;
+                f.setAccessible(true);
+                if (!f.getType().isPrimitive()) {
+                    push(open, f.get(one));
+                }
+            }
+        }
+        return many;
+    }
+
+    private static void push(Deque<Object> open, Object one) {
+        if (one != null) {
+            open.push(one);
         }
     }
 

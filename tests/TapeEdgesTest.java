@@ -6,6 +6,7 @@ public final class TapeEdgesTest {
     public static void main(String[] args) {
         nothingIsTold();
         nothingToDo();
+        objectsOfTheirOwn();
         feeds();
         feedOfAFullTape();
         backs();
@@ -72,6 +73,35 @@ public final class TapeEdgesTest {
         Check.due("undo()", x.undo(), true);
         Check.due("restore(0)", x.restore(0), true);
         Check.due("week", x.count(2), 2);
+    }
+
+    private static FeatherCourt told(String text) {
+        FeatherCourt x = Check.court(text);
+        x.fine(0, 0);
+        x.lend(1, 0, 3);
+        x.tell(1, 4);
+        x.hold(2);
+        x.weeks(2);
+        Check.feed(x, "man z");
+        return x;
+    }
+
+    private static void objectsOfTheirOwn() {
+        Check.edge("1: nothing is told, whatever other objects are told");
+        String[] texts = {"man a 50;man b 40;deed d 9;fine d=7;grow=3;vote a=rank;cold 9;moult 2;", "man b 9;man a 8;deed e 1;warm=0;"};
+        String[] alone = {Check.all(told(texts[0])), Check.all(told(texts[1]))};
+        FeatherCourt x = told(texts[0]);
+        FeatherCourt y = told(texts[1]);
+        FeatherCourt z = new FeatherCourt();
+        for (int what = 0; what <= 11; what++) {
+            Check.due("count(" + what + ")", z.count(what), 0);
+        }
+        Check.due("restore(2)", z.restore(2), false);
+        Check.due("undo()", z.undo(), false);
+        Check.fault(z, "moult 0;", 5, 6);
+        Check.due("the first one's place", x.place(), NONE);
+        Check.due("the first one", Check.all(x), alone[0]);
+        Check.due("the second one", Check.all(y), alone[1]);
     }
 
     // ---- promises 2 to 5 ----

@@ -19,6 +19,7 @@ public final class TimeEdgesTest {
         undoesEach();
         undoesTheLast25();
         undoGoesRound();
+        undoOfWhatIsLongAgo();
         whatIsNoThingDone();
         undoLeavesTheRest();
         undoAcrossAMoult();
@@ -31,6 +32,7 @@ public final class TimeEdgesTest {
         nothingUndoneThen();
         notHeld();
         heldTimes();
+        heldEntries();
         holdsAll300();
         counts();
         countsEmpty();
@@ -336,6 +338,27 @@ public final class TimeEdgesTest {
         Check.due("debt", x.debt(1, 0), 0);
     }
 
+    private static void undoOfWhatIsLongAgo() {
+        FeatherCourt x = Check.court(VILLAGE);
+        x.lend(0, 1, 5);
+        x.fine(0, 0);
+        x.appeal(0);
+        for (int i = 0; i < 22; i++) {
+            x.weeks(1);
+        }
+        Check.edge("17: the last thing done alone is undone, not the loan 25 things ahead");
+        x.stuff(0, 1, 1);
+        Check.due("undo", x.undo(), true);
+        Check.due("debt", x.debt(1, 0), 5);
+        Check.edge("17: the last thing done alone is undone, not the appeal 25 things ahead");
+        x.stuff(0, 1, 1);
+        x.stuff(0, 1, 1);
+        x.weeks(1);
+        Check.due("undo", x.undo(), true);
+        Check.due("appealed", x.entry(0, 4), 1);
+        Check.due("entries", x.count(5), 1);
+    }
+
     private static void whatIsNoThingDone() {
         FeatherCourt x = busy();
         Check.edge("17: what is refused is no thing done");
@@ -589,6 +612,28 @@ public final class TimeEdgesTest {
         Check.due("week 6", times(x), 0);
     }
 
+    private static void heldEntries() {
+        Check.edge("30: ENTRIES are held, each as it is: its MAN, DEED, week, FEATHERS, APPEAL");
+        FeatherCourt x = Check.court(VILLAGE);
+        x.weeks(2);
+        x.fine(0, 0);
+        x.fine(1, 1);
+        x.appeal(1);
+        String before = Check.village(x);
+        x.hold(0);
+        for (int i = 0; i < 3; i++) {
+            x.undo();
+        }
+        x.weeks(5);
+        x.fine(2, 1);
+        x.fine(2, 0);
+        x.appeal(0);
+        x.restore(0);
+        Check.due("all", Check.village(x), before);
+        Check.due("the week of the first one", x.entry(0, 2), 2);
+        Check.due("times", times(x), 101);
+    }
+
     private static void holdsAll300() {
         Check.edge("30: 300 ENTRIES are held");
         FeatherCourt x = Check.court("man a 999;man b 5;deed d 1;deed e 1;fine d=3;fine e=1;");
@@ -608,6 +653,22 @@ public final class TimeEdgesTest {
         Check.due("the last one", x.entry(299, 1), 1);
         Check.due("the last but one", x.entry(298, 1), 0);
         Check.due("times", x.man(0, 2), 299);
+        Check.edge("30: the last of 300 ENTRIES is held as it is");
+        FeatherCourt y = Check.court("man a 999;man b 5;deed d 1;deed e 1;fine d=3;fine e=1;");
+        for (int i = 0; i < 300; i++) {
+            y.fine(0, 0);
+        }
+        y.appeal(299);
+        y.hold(0);
+        y.undo();
+        y.undo();
+        y.weeks(4);
+        y.fine(1, 1);
+        Check.due("restore(0)", y.restore(0), true);
+        int[] due = {0, 0, 0, 3, 1};
+        for (int what = 0; what < due.length; what++) {
+            Check.due("entry(299, " + what + ")", y.entry(299, what), due[what]);
+        }
     }
 
     // ---- count ----

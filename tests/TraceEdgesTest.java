@@ -405,6 +405,12 @@ public final class TraceEdgesTest {
         FeatherCourt x = Check.court(Check.men(9));
         Check.due("ways", x.stuffer(9, 0, NONE), 0);
         Check.due("the first", x.stuffer(9, 0, 0), NONE);
+        Check.edge("29: no more than are its own is the one bound: on a full goose, too");
+        x = Check.court("man a 5;man b 999;grow=999*rank;");
+        x.weeks(10);
+        Check.due("b has", x.man(1, 0), 9999);
+        Check.due("ways", x.stuffer(200, 0, NONE), 5 + 200);
+        Check.due("all of a on b", x.stuffer(200, 0, 4), 1005);
         Check.edge("29: of bare geese");
         Check.due("ways", Check.court(Check.men(0, 0)).stuffer(9, 0, NONE), 0);
     }
